@@ -238,7 +238,15 @@ public final class GiftMatch {
         if (!isRule(rule) || !isWithin(law, LAWS - 1) || top < 1 || top > COIN_TOP) {
             return BAD;
         }
-        return laws.firstBroken(scene.rules[rule], law, top);
+        Rule tried = scene.rules[rule];
+        for (int a = 0; a <= top; a++) {
+            for (int b = 0; b <= top; b++) {
+                if (!laws.hold(tried, law, top, a, b)) {
+                    return 100 * a + b;
+                }
+            }
+        }
+        return NONE;
     }
 
     // ---- images
@@ -536,7 +544,7 @@ public final class GiftMatch {
         }
 
         private void release(Rule rule, int leastRank) {
-            while (waitCount > 0 && lastRank() >= leastRank) {
+            while (waitCount > 0 && rankOf(waiting[waitCount - 1]) >= leastRank) {
                 waitCount--;
                 rule.addStep(-waiting[waitCount]);
             }
@@ -644,7 +652,7 @@ public final class GiftMatch {
                     push(rootSum * rootSum / (ROOT_ONE * ROOT_ONE));
                     break;
                 case '!':
-                    push(truth(pop() == 0));
+                    push(pop() == 0 ? 1 : 0);
                     break;
                 case NEGATIVE:
                     push(-pop());
@@ -660,15 +668,15 @@ public final class GiftMatch {
         private static long joined(int sign, long left, long right) {
             switch (sign) {
                 case '|':
-                    return truth(left != 0 || right != 0);
+                    return left != 0 || right != 0 ? 1 : 0;
                 case '&':
-                    return truth(left != 0 && right != 0);
+                    return left != 0 && right != 0 ? 1 : 0;
                 case '<':
-                    return truth(left < right);
+                    return left < right ? 1 : 0;
                 case '>':
-                    return truth(left > right);
+                    return left > right ? 1 : 0;
                 case '=':
-                    return truth(left == right);
+                    return left == right ? 1 : 0;
                 case '+':
                     return left + right;
                 case '-':
@@ -680,10 +688,6 @@ public final class GiftMatch {
                 default:
                     return 0;
             }
-        }
-
-        private static long truth(boolean holds) {
-            return holds ? 1 : 0;
         }
 
         private void push(long value) {
@@ -929,30 +933,20 @@ public final class GiftMatch {
             }
         }
 
-        boolean moves(Scene scene, int giver) {
-            choose(scene, giver);
-            if (most <= before) {
-                return false;
-            }
-            System.arraycopy(row, 0, scene.gift, giver * WORKS, WORKS);
-            return true;
-        }
-
         /** What the rule would add by each gift of his alone, so that no row has to ask it again. */
         private void foresee(Scene scene, int giver) {
             for (int work = 0; work < WORKS; work++) {
                 others[work] = ledger.gifts[work] - scene.gift[giver * WORKS + work];
+                wouldBy[work * (COIN_TOP + 1)] = 0;
+            }
+            Sight sight = ledger.sight;
+            for (int work = 0; work < scene.works; work++) {
                 for (int coins = 0; coins <= scene.coin[giver]; coins++) {
-                    int place = work * (COIN_TOP + 1) + coins;
-                    wouldBy[place] = work < scene.works ? toldWith(scene, giver, work, coins) : 0;
+                    sight.seeAllBut(scene, work, giver);
+                    sight.see(coins);
+                    wouldBy[work * (COIN_TOP + 1) + coins] = sight.toldBy(scene.rules[scene.theRule]);
                 }
             }
-        }
-
-        private int toldWith(Scene scene, int giver, int work, int coins) {
-            ledger.sight.seeAllBut(scene, work, giver);
-            ledger.sight.see(coins);
-            return ledger.sight.toldBy(scene.rules[scene.theRule]);
         }
 
         private void weigh(Scene scene, int giver, int a, int b, int c) {
@@ -989,7 +983,12 @@ public final class GiftMatch {
             behind[0] = scene.packedGifts();
             for (int round = 1; round <= ROUNDS; round++) {
                 for (int giver = 0; giver < scene.givers; giver++) {
-                    still = chooser.moves(scene, giver) ? 0 : still + 1;
+                    still++;
+                    chooser.choose(scene, giver);
+                    if (chooser.most > chooser.before) {
+                        System.arraycopy(chooser.row, 0, scene.gift, giver * WORKS, WORKS);
+                        still = 0;
+                    }
                     if (still == scene.givers) {
                         return AT_REST;
                     }
@@ -1135,7 +1134,7 @@ public final class GiftMatch {
         }
     }
 
-    /** Laws that a rule keeps or breaks, tried with two gifts to one work. */
+    /** Laws that a rule keeps or breaks, tried with two gifts a and b to one work. */
     private static final class Laws {
         private final Sight sight;
 
@@ -1143,18 +1142,7 @@ public final class GiftMatch {
             this.sight = sight;
         }
 
-        int firstBroken(Rule rule, int law, int top) {
-            for (int a = 0; a <= top; a++) {
-                for (int b = 0; b <= top; b++) {
-                    if (!holds(rule, law, top, a, b)) {
-                        return 100 * a + b;
-                    }
-                }
-            }
-            return NONE;
-        }
-
-        private boolean holds(Rule rule, int law, int top, int a, int b) {
+        boolean hold(Rule rule, int law, int top, int a, int b) {
             int adds = addedTo(rule, a, b, 0);
             switch (law) {
                 case 0:
