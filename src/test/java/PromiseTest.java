@@ -1,3 +1,5 @@
+import java.math.BigInteger;
+
 /** Each promise of the document by itself: ordinary calls, the edges that it names, wrong numbers. Answers are worked by hand. */
 public final class PromiseTest {
     private static final int[] WILD = {Integer.MIN_VALUE, -1000, -2, 1000, Integer.MAX_VALUE};
@@ -289,8 +291,14 @@ public final class PromiseTest {
         due("longs wrap", told("999999*999999*999999*999999/1000"), 0);
         due("brackets", told("(2+3)*(4-(1+1))"), 10);
         due("blanks", told("  s *  2 ", 4), 8);
+        due("40 characters", told("!".repeat(39) + "s"), 1);
+        due("40 characters", told("-".repeat(38) + "7 "), 7);
+        due("8 brackets", told("1+(1+(1+(1+(1+(1+(1+(1+(s*2))))))))", 4), 16);
         due("with a FAULT", told("7+", 4), 0);
         due("empty", told("", 4), 0);
+        for (int coins = 0; coins <= 12; coins++) {
+            rootsOfGiftsUpTo(coins);
+        }
         GiftMatch x = new GiftMatch();
         due("no work there", x.amount(0, 0), GiftMatch.BAD);
         x.work(0);
@@ -318,6 +326,32 @@ public final class PromiseTest {
         }
         x.set(1, 1);
         due("another RULE", x.amount(2, 1), 0);
+    }
+
+    /** Of all five gifts of which the first is the greatest: rules tell 99 at most, so three tell a third each. */
+    private static void rootsOfGiftsUpTo(int top) {
+        for (int b = 0; b <= top; b++) {
+            for (int c = 0; c <= b; c++) {
+                for (int d = 0; d <= c; d++) {
+                    for (int e = 0; e <= d; e++) {
+                        int[] gifts = {top, b, c, d, e};
+                        int roots = told("r", gifts);
+                        roots += roots == 99 ? told("r-99", gifts) : 0;
+                        roots += roots == 198 ? told("r-198", gifts) : 0;
+                        due("r of " + java.util.Arrays.toString(gifts), roots, Math.min(297, rootsSquared(gifts)));
+                    }
+                }
+            }
+        }
+    }
+
+    private static int rootsSquared(int[] gifts) {
+        BigInteger one = BigInteger.TEN.pow(12);
+        BigInteger sum = BigInteger.ZERO;
+        for (int gift : gifts) {
+            sum = sum.add(BigInteger.valueOf(gift).multiply(one).sqrt());
+        }
+        return sum.multiply(sum).divide(one).intValueExact();
     }
 
     private static void shortPurse() {
@@ -480,6 +514,20 @@ public final class PromiseTest {
         x.worth(0, 1, 1, 0);
         due("60 coins at most", x.good(-1), 60 + 60 + 20);
         due("no more than 60", x.good(0), 60);
+        GiftMatch y = new GiftMatch();
+        y.set(0, 1);
+        y.set(2, 200);
+        for (int w = 0; w < 3; w++) {
+            y.work(60);
+        }
+        for (int g = 0; g < 5; g++) {
+            y.giver(12);
+            for (int w = 0; w < 3; w++) {
+                y.worth(g, w, 200, 0);
+            }
+        }
+        due("all that there can be", y.good(-1), 5 * 3 * 60 * 200 + 60);
+        due("all that there can be", y.good(2), 60);
         due("good(2)", x.good(2), -10);
         due("good(-2)", x.good(-2), -10);
     }
@@ -572,6 +620,23 @@ public final class PromiseTest {
         due("MOVED", x.anyway(1), 3);
         due("gifts as before", x.count(2), 5);
         due("the rule as before", x.amount(0, 1), 99);
+        due("two coins again", x.anyway(0), 2);
+        GiftMatch y = new GiftMatch();
+        y.image(0);
+        y.work(0);
+        y.giver(2);
+        y.worth(0, 0, 20, 0);
+        due("giver 0 gives 2", y.anyway(0), 2);
+        y.from(0);
+        y.work(3);
+        y.set(0, 0);
+        for (int g = 0; g < 2; g++) {
+            y.giver(2);
+            y.worth(g, 0, 20, 0);
+        }
+        due("from no gifts at all, none reaches the BAR", y.anyway(0), 0);
+        y.give(0, 0, 1);
+        due("from no gifts at all, whatever is given", y.anyway(1), 1);
         due("anyway(2)", x.anyway(2), -1000);
         due("anyway(-1)", x.anyway(-1), -1000);
     }
