@@ -1054,17 +1054,17 @@ public final class GiftMatch {
 
         /** The least amount of a work by which it and the works behind it are worth most, with so much left. */
         private int firstBest(int work, int left) {
-            int best = 0;
-            int most = haveBy(work, left, 0);
+            int found = 0;
+            int greatest = haveBy(work, left, 0);
             int top = Math.min(WORTH_COINS, left);
             for (int amount = 1; amount <= top; amount++) {
                 int have = haveBy(work, left, amount);
-                if (have > most) {
-                    most = have;
-                    best = amount;
+                if (have > greatest) {
+                    greatest = have;
+                    found = amount;
                 }
             }
-            return best;
+            return found;
         }
 
         private int haveBy(int work, int left, int amount) {
