@@ -1363,6 +1363,7 @@ public final class BoundaryTest {
         addWorksAndGiver(x);
         due("three works", x.isShort(), 1);
         x.from(1);
+        x.set(2, 0);
         due("no works", x.isShort(), 0);
         due("nobody", x.has(NONE), 0);
         goodDue(x, 0);
@@ -1379,6 +1380,7 @@ public final class BoundaryTest {
         x.worth(1, 0, 50, 0);
         x.give(1, 0, 12);
         x.set(0, 10);
+        x.set(2, 40);
     }
 
     private static void oneWorkDue(GiftMatch x) {
@@ -1390,6 +1392,10 @@ public final class BoundaryTest {
         due("no second giver", x.has(1), BAD);
         bestDue(x, 0, 36 * 11, 6);
         goodDue(x, 46 * 11, 46);
+        x.set(2, 30);
+        bestDue(x, 0, 36 * 11, 6);
+        x.set(2, 29);
+        bestDue(x, 0, 35 * 11, 6);
         due("by how much", x.rest(1), 6);
         due("nothing parted", x.gain(0, 0), 0);
         due("anyway", x.anyway(0), 6);
