@@ -1095,12 +1095,24 @@ public final class BoundaryTest {
         due("roots", giving(4, "r").gain(0, 0), 10 * (16 - 4));
         due("beside the others'", handsBesideAnother("(n=5)*6"), 60);
         due("beside the others'", handsBesideAnother("(l=1)*(m=7)*6"), 60);
+        due("2, 2, 3, 5 beside 7, 7, 8, 9: roots of 17.916472 squared", handsBesideFour("(r=320)*7"), 70);
+        due("no roots of 17.916473", handsBesideFour("(r=321)*7"), 0);
     }
 
     private static int handsBesideAnother(String text) {
         GiftMatch x = giving(4, text);
         x.giver(12);
         x.give(1, 0, 7);
+        return x.gain(0, 0);
+    }
+
+    private static int handsBesideFour(String text) {
+        GiftMatch x = giving(12, text);
+        int[] others = {7, 7, 8, 9};
+        for (int g = 1; g <= 4; g++) {
+            x.giver(12);
+            x.give(g, 0, others[g - 1]);
+        }
         return x.gain(0, 0);
     }
 
