@@ -1186,10 +1186,50 @@ public final class BoundaryTest {
         GiftMatch y = longScene(new int[] {10, 8}, new int[] {4, 12, 3}, new int[] {72, 29, 54, 6, 12, 61},
             new int[] {4, 8, 7, 1, 0, 1}, new int[] {2, 55, 0}, 1, 0, 0, 2, 3, 0);
         due("a RING behind round 3: 10 and 3", y.anyway(0), 13);
+        anywaySpent();
         says("MOVED: coins given as they are less those.");
         due("fewer than anyway", y.anyway(1), 6 - 13);
         due("more than anyway", x.anyway(1), 7);
         due("nobody there", new GiftMatch().anyway(1), 0);
+    }
+
+    /** In one a RING would come behind the 49th round, in the other REST in the 44th. */
+    private static void anywaySpent() {
+        spentDue(new int[][] {{9, 12, 9}, {3, 12, 12}, {121, 196, 191, 22, 144, 160, 186, 122, 188},
+            {37, 12, 14, 1, 24, 13, 15, 5, 12}, {11, 200, 0}}, 23, 27, 24);
+        spentDue(new int[][] {{7, 9, 9}, {6, 9, 5, 9, 1},
+            {152, 191, 111, 31, 120, 140, 147, 186, 126, 171, 64, 118, 57, 24, 4},
+            {18, 4, 11, 3, 28, 15, 45, 43, 13, 23, 6, 36, 38, 42, 38}, {5, 200, 0}}, 17, 25, 27);
+    }
+
+    /** So many coins are given behind the 39th, the 40th and the 41st round when each turn is followed by itself. */
+    private static void spentDue(int[][] told, int behind39, int behind40, int behind41) {
+        int[] gifts = new int[told[2].length];
+        GiftMatch x = longScene(told[0], told[1], told[2], told[3], told[4], gifts);
+        due("SPENT, whatever THE RULE is", x.anyway(0), behind40);
+        due("MOVED from none", x.anyway(1), -behind40);
+        x.erase(0);
+        due("turns without anything added", x.turns(), 2);
+        due("coins given then", x.count(2), behind40);
+        due("SPENT, whatever is given", x.anyway(0), behind40);
+        due("MOVED", x.anyway(1), 0);
+        for (int round = 1; round <= 41; round++) {
+            // A new object each round: none is used for more than 512 calls.
+            GiftMatch y = longScene(told[0], told[1], told[2], told[3], told[4], gifts);
+            y.erase(0);
+            takeTurns(y);
+            gifts = giftsOf(y, y.count(0), y.count(1));
+            int want = round == 39 ? behind39 : round == 40 ? behind40 : round == 41 ? behind41 : y.count(2);
+            due("coins behind round " + round, y.count(2), want);
+        }
+    }
+
+    private static void takeTurns(GiftMatch x) {
+        for (int g = 0; g < x.count(0); g++) {
+            if (x.best(g, NONE) > x.has(g)) {
+                give(x, g, x.best(g, 0), x.best(g, 1), x.best(g, 2));
+            }
+        }
     }
 
     /** Where nobody would change anything, what an earlier call gave would stay. */

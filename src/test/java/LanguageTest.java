@@ -29,6 +29,7 @@ public final class LanguageTest {
         List<String> lines = Files.readAllLines(SOURCE);
         words(String.join("\n", lines));
         lengths(lines);
+        objectsMade(lines);
         System.out.println(wrong == 0 ? "the rules that can be seen are kept" : wrong + " rules are not kept");
         if (wrong != 0) {
             System.exit(1);
@@ -103,6 +104,24 @@ public final class LanguageTest {
             .matcher(code);
         while (refused.find()) {
             demand(false, "a word that is not used: " + refused.group());
+        }
+    }
+
+    /** All calls of a run share one room, so only constructors and what fields begin with make objects. */
+    private static void objectsMade(List<String> lines) {
+        String method = "";
+        String end = "";
+        for (int i = 0; i < lines.size(); i++) {
+            String line = lines.get(i);
+            if (method.isEmpty() && line.matches(" {4,8}\\S.*\\) \\{") && !line.contains(" class ")) {
+                method = line.strip();
+                end = line.substring(0, line.indexOf(method)) + "}";
+            } else if (line.equals(end)) {
+                method = "";
+            } else if (line.matches(".*(\\bnew\\b|\\.clone\\(|\\bcopyOf).*")) {
+                boolean begins = method.isEmpty() && line.matches("\\s+(private )?final .* = new .*;");
+                demand(begins || method.matches("(public )?[A-Z]\\w*\\(.*"), "line " + (i + 1) + " makes an object in a call");
+            }
         }
     }
 
